@@ -81,7 +81,7 @@ final class Checks {
         return x;
     }
 
-    /** All of a short OUT; -1 between the numbers of a byte that is none shows up as a question mark. */
+    /** All of a short OUT; an octet that is no byte becomes a question mark. */
     static String out(ValueTexts x) {
         return octets(x, 0, x.octet(-1));
     }

@@ -84,6 +84,7 @@ final class Promise04ReadTest {
         }
         CHECKS.reads("(" + Checks.times("a", 100) + ")", 5);
         CHECKS.broken("(" + Checks.times("a", 101) + ")");
+        CHECKS.broken("(" + Checks.times("a", 101));
         CHECKS.reads("(" + Checks.times("\\101", 100) + ")", 5);
         CHECKS.broken("(" + Checks.times("\\101", 101) + ")");
         CHECKS.reads("(" + Checks.times("\\)", 100) + ")", 5);
@@ -99,6 +100,7 @@ final class Promise04ReadTest {
         }
         CHECKS.reads("<" + Checks.times("6a", 100) + ">", 5);
         CHECKS.broken("<" + Checks.times("6a", 101) + ">");
+        CHECKS.broken("<" + Checks.times("6a", 101));
     }
 
     private static void arrays() {
@@ -111,6 +113,7 @@ final class Promise04ReadTest {
         }
         CHECKS.reads("[" + Checks.times("1 ", 60) + "]", 6);
         CHECKS.broken("[" + Checks.times("1 ", 61) + "]");
+        CHECKS.broken("[" + Checks.times("1 ", 61));
         CHECKS.reads("[" + Checks.times("()", 60) + "]", 6);
         CHECKS.broken("[" + Checks.times("()", 61) + "]");
         CHECKS.reads("[" + Checks.times("[" + Checks.times("/", 60) + "]", 16) + "]", 6);
@@ -127,12 +130,14 @@ final class Promise04ReadTest {
         CHECKS.reads("<</a<</a 1>>/b[<</a 2>>]>>", 7);
         CHECKS.reads("<</a 1/aa 2/A 3>>", 7);
         for (String text : new String[] {"<<", ">>", "<<>", "<< >", "< <>>", "<<> >", "<</a>>", "<</a 1/b>>", "<<1 2>>",
-                "<<(a)1>>", "<<a 1>>", "<</a 1 2>>", "<</a 1", "<</a 1>", "<</a 1> >", "<</a 1>>>", "<</a 1/a 1>>",
+                "<<(a)1>>", "<<a 1>>", "<</a 1 2>>", "<</a 1", "<</a 1>", "<</a 1> >", "<</a 1>x", "<<x>", "<<>x",
+                "<</a 1>>>", "<</a 1/a 1>>",
                 "<</a 1/b 2/a 3>>", "<</a[1 2]/b<</c 3>>/b 4>>", "<</a<</b 1/b 2>>>>", "<</a x>>"}) {
             CHECKS.broken(text);
         }
         CHECKS.reads(Checks.dictOf(30), 7);
         CHECKS.broken(Checks.dictOf(31));
+        CHECKS.broken(Checks.dictOf(31).replace(">>", ""));
         CHECKS.reads("<</abcdefghijklmnopqrst 1>>", 7);
         CHECKS.broken("<</abcdefghijklmnopqrstu 1>>");
     }
@@ -198,7 +203,7 @@ final class Promise04ReadTest {
 
     private static void goodReplacesAll() {
         ValueTexts x = new ValueTexts();
-        for (int i = 0; i < 20; i++) {
+        for (int i = 0; i < 9; i++) {
             CHECKS.due("read()", Checks.reading(x, "[" + i + " [/n" + i + "]]"), 6);
             CHECKS.due("look(0), the point is the value", x.look(0), 6);
             x.item(1);
@@ -208,8 +213,15 @@ final class Promise04ReadTest {
             CHECKS.due("broken", Checks.reading(x, "[/broken"), ValueTexts.BROKEN);
             CHECKS.due("end(1), the tape is empty", x.end(1), ValueTexts.REFUSED);
         }
+        for (char b = 'a'; b <= 'e'; b++) {
+            String string = "(" + Checks.times("" + b, 100) + ")";
+            CHECKS.due("read() of long strings", Checks.reading(x, "[" + Checks.times(string, 4) + "]"), 6);
+            x.item(3);
+            x.bytes(0);
+            CHECKS.due("the last byte of the last one", x.octet(99), b);
+        }
         CHECKS.due("read()", Checks.reading(x, "true"), 1);
-        CHECKS.due("OUT stays", Checks.out(x), "/n19");
+        CHECKS.due("octet(-1), OUT stays", x.octet(-1), 100);
         CHECKS.due("item(0)", x.item(0), ValueTexts.NONE);
     }
 }
