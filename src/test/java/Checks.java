@@ -1,7 +1,7 @@
 import java.nio.charset.StandardCharsets;
 
 /** What the tests share: they print every answer that is not the one that is due, and exit with 1 if there was one. */
-final class Checks {
+class Checks {
     /** Objects are promised to answer for this many calls, so no test uses one for more. */
     static final int MOST_CALLS = 512;
 
