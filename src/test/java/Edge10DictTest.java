@@ -64,7 +64,7 @@ final class Edge10DictTest {
     }
 
     private static void unclosed() {
-        for (String text : new String[] {"<<", ">>", "<<>", "<>>", "< <>>", "<<> >", "<<>>>", "<<<>>", "<</a", "<</a 1", "<</a 1>",
+        for (String text : new String[] {"<<", ">>", "<<>", "<>>", "< <>>", "<<> >", "<<>>>", "<<<>>", "<</a", "<</a 1", "<</a 1>", "<<>x", "<</a 1>x",
                 "<</a 1> >", "<</a<00>>", "<</a<<>>", "<</a 1]", "[<<]>>", Checks.dictOf(30).replace(">>", ""),
                 Checks.dictOf(30).replace(">>", ">"), Checks.dictOf(31).replace(">>", "")}) {
             EDGES.bad(text);

@@ -49,7 +49,8 @@ final class Edge11RefTest {
 
     private static void theWordR() {
         for (String text : new String[] {"1 0 r", "1 0 RR", "1 0 R1", "1 0 1R", "1 0 /R", "1 0 (R)", "1 0 Q", "1 0 S", "1 0 ", "1 0",
-                "R", "1 R", "[R]", "[1 R]", "R 1 0", "1 R 0", "[1 0 R R]"}) {
+                "R", "1 R", "[R]", "[1 R]", "R 1 0", "1 R 0", "[1 0 R R]",
+                "[1 0 R1]", "[1 0 R1 0 R]", "[1 0 Rnull]"}) {
             EDGES.bad(text);
         }
     }

@@ -72,5 +72,11 @@ final class Edge24LookTest {
         for (int what = 0; what <= 3; what++) {
             EDGES.due("look(" + what + ") of null between refs", x.look(what), what == 3 ? 1 : 0);
         }
+        x = Checks.holding("<</one(two)/three/four/five[7]/six<</eight 9>>>>");
+        for (int k = 0; k <= 3; k++) {
+            x.top();
+            x.item(k);
+            EDGES.due("look(2) of item " + k + ", which is no ref", x.look(2), 0);
+        }
     }
 }

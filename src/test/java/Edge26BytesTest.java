@@ -26,9 +26,11 @@ final class Edge26BytesTest {
 
     private static void gives(String text, int k, String want) {
         ValueTexts x = Edges.knownWithoutTape();
-        Checks.reading(x, text);
+        int kind = Checks.reading(x, text);
         EDGES.due("bytes(" + k + ") of " + Checks.shown(text), x.bytes(k), want.length());
-        EDGES.shows("behind it", x, want, Checks.written(text), Checks.written(text), "");
+        EDGES.due("OUT", Checks.out(x), want);
+        EDGES.due("look(0), the point stays", x.look(0), kind);
+        EDGES.due("look(1)", x.look(1), want.length());
     }
 
     private static void namesOfDicts() {
