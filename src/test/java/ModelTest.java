@@ -1,15 +1,25 @@
 import java.util.Random;
+import java.util.TreeSet;
 
-/** Many runs of calls, always the same ones, on texts that are good or nearly good, each answer as the model's. */
+/**
+ * Many runs of 512 calls, always the same ones, on texts that are good or nearly good, each answer as the model's.
+ * What came in them is noted, so that the runs can't lose a kind of call or of answer without being seen.
+ */
 final class ModelTest {
     private static final int RUNS = 1500;
     private static final Checks CHECKS = new Checks("the model");
+    private static final String[] FACE = {"feed", "end", "read", "write", "top", "item", "find", "look", "bytes", "octet"};
+    private static final String KINDS = " 0 1 2 3 4 5 6 7 8";
+
+    /** Which calls came, as "one, then other", and which answers, as "call: answer". */
+    private static final TreeSet<String> CAME = new TreeSet<>();
 
     private final Random random;
     private final ValueTexts x = new ValueTexts();
     private final Model model = new Model();
     private final StringBuilder calls = new StringBuilder();
     private int left = Checks.MOST_CALLS;
+    private String latest = "new";
 
     private ModelTest(int seed) {
         random = new Random(seed);
@@ -19,7 +29,33 @@ final class ModelTest {
         for (int seed = 0; seed < RUNS; seed++) {
             new ModelTest(seed).run();
         }
+        for (String call : FACE) {
+            came("new, then " + call);
+            for (String next : FACE) {
+                came(call + ", then " + next);
+            }
+        }
+        cameAll("feed", "-3 20 1000");
+        cameAll("end", "-1 0 1000");
+        cameAll("read", "-4" + KINDS);
+        cameAll("write", "-2 1 2 202");
+        cameAll("top", "-2" + KINDS);
+        cameAll("item", "-2" + KINDS);
+        cameAll("find", "-2" + KINDS);
+        cameAll("look", "-2 -1 -999999999 999999999 299 65535 100 60 30 300");
+        cameAll("bytes", "-2 0 1 20 100");
+        cameAll("octet", "-2 0 1 127 128 255");
         CHECKS.finish();
+    }
+
+    private static void cameAll(String call, String answers) {
+        for (String answer : answers.split(" ")) {
+            came(call + ": " + answer);
+        }
+    }
+
+    private static void came(String what) {
+        CHECKS.due("'" + what + "' in the runs", CAME.contains(what) ? "came" : "never", "came");
     }
 
     private void run() {
@@ -34,17 +70,30 @@ final class ModelTest {
             } else if (choice < 92) {
                 query();
             } else if (choice < 96) {
-                int[] words = {random.nextInt(), random.nextInt(), random.nextInt(), random.nextInt(), random.nextInt()};
-                feed(words);
+                feed(anyWords());
             } else if (choice < 98) {
                 int n = random.nextInt(60) - 5;
                 same("end(" + n + ")", x.end(n), model.end(n));
+            } else if (random.nextInt(10) == 0) {
+                tapeToItsEnd();
             } else if (choice < 99) {
                 same("read()", x.read(), model.read());
             } else {
                 same("find()", x.find(), model.find());
             }
         }
+    }
+
+    private int[] anyWords() {
+        return new int[] {random.nextInt(), random.nextInt(), random.nextInt(), random.nextInt(), random.nextInt()};
+    }
+
+    /** A text with so much white behind it that the tape is full. */
+    private void tapeToItsEnd() {
+        String text = text();
+        tape((text + " ".repeat(1000)).substring(0, 1000));
+        feed(anyWords());
+        same("read()", x.read(), model.read());
     }
 
     private void query() {
@@ -68,7 +117,7 @@ final class ModelTest {
                 same("bytes(" + k + ")", x.bytes(k), model.bytes(k));
                 break;
             default:
-                int i = random.nextBoolean() ? k : random.nextInt(200);
+                int i = random.nextInt(3) == 0 ? k : random.nextInt(model.octet(-1) + 2);
                 same("octet(" + i + ")", x.octet(i), model.octet(i));
                 break;
         }
@@ -79,6 +128,10 @@ final class ModelTest {
         calls.append(call).append(' ');
         // What an object answers behind its last call is free.
         if (left >= 0) {
+            String name = call.replaceFirst("\\(.*", "");
+            CAME.add(latest + ", then " + name);
+            CAME.add(name + ": " + want);
+            latest = name;
             CHECKS.due(got == want ? call : "the last of " + calls, got, want);
         }
     }
